@@ -529,7 +529,7 @@ public final class LateGlass {
             for (int other = 0; other < SORTS; other++) {
                 house.glasses.set(glass, SORT, other);
                 // Only what is sooner than the best is looked for: the first of alike ones stays.
-                int found = other == sort ? NONE : walker.firstSight(body, cell, hour, best);
+                int found = other == sort ? NONE : walker.sightBy(glass, body, cell, hour, best);
                 if (found != NONE) {
                     best = found;
                     answer = what == 0 ? found : what == 1 ? glass : other;
@@ -995,7 +995,10 @@ public final class LateGlass {
         }
     }
 
-    /** Reads a text by the grammar; each method stops at the token that can't go on. */
+    /**
+     * Reads a text by the grammar; each method stops at the token that can't go on. What binds more
+     * tightly ("and", "*", "/") is written down at once, what binds less ("or", "+", "-") waits.
+     */
     private static final class LawReader {
         private final Tokens tokens = new Tokens();
         private final int[] heads = new int[MOST_CLAUSES];
@@ -1003,7 +1006,6 @@ public final class LateGlass {
         /** No token makes more than one step, so there are never more of them. */
         private final int[] code = new int[MOST_BYTES];
         private int length;
-        private int clauses;
         private int parts;
         private int at;
         int faultPlace = NONE;
@@ -1011,43 +1013,31 @@ public final class LateGlass {
         Law read(int[] text, int bytes) {
             tokens.cut(text, bytes);
             length = 0;
-            clauses = 0;
             parts = 0;
             at = 0;
-            if (!readClauses()) {
-                faultPlace = tokens.places[at];
-                return null;
-            }
-            faultPlace = NONE;
-            starts[clauses] = length;
-            return new Law(clauses, Arrays.copyOf(heads, clauses),
-                Arrays.copyOf(starts, clauses + 1), Arrays.copyOf(code, length));
-        }
-
-        private boolean readClauses() {
-            while (clauses < MOST_CLAUSES) {
-                if (!readClause()) {
-                    return false;
-                }
-                clauses++;
+            for (int clause = 0; clause < MOST_CLAUSES && readClause(clause); clause++) {
                 if (isNext(TOKEN_END)) {
-                    return true;
+                    faultPlace = NONE;
+                    starts[clause + 1] = length;
+                    return new Law(clause + 1, Arrays.copyOf(heads, clause + 1),
+                        Arrays.copyOf(starts, clause + 2), Arrays.copyOf(code, length));
                 }
                 if (!passed(';')) {
-                    return false;
+                    break;
                 }
             }
-            return false;
+            faultPlace = at < tokens.places.length ? tokens.places[at] : bytes;
+            return null;
         }
 
-        private boolean readClause() {
+        private boolean readClause(int clause) {
             int head = tokens.kindAt(at) - TOKEN_WORD;
             if (head < 0 || head >= HEADS) {
                 return false;
             }
             at++;
-            heads[clauses] = head;
-            starts[clauses] = length;
+            heads[clause] = head;
+            starts[clause] = length;
             if ((head == HEAD_LATE || head == HEAD_DUST) && !readSum(0)) {
                 return false;
             }
@@ -1062,30 +1052,27 @@ public final class LateGlass {
         }
 
         private boolean readTest(int depth) {
-            if (!readBoth(depth)) {
-                return false;
-            }
-            for (int i = 0; i < MOST_BYTES && passed(TOKEN_OR); i++) {
-                int jump = emit(OP_OR, 0);
-                if (!readBoth(depth)) {
-                    return false;
-                }
-                jumpHere(jump);
-            }
-            return true;
-        }
-
-        private boolean readBoth(int depth) {
             if (!readPlain(depth)) {
                 return false;
             }
-            for (int i = 0; i < MOST_BYTES && passed(TOKEN_AND); i++) {
-                int jump = emit(OP_AND, 0);
+            int waiting = NONE;
+            for (int i = 0; i < MOST_BYTES && (isNext(TOKEN_OR) || isNext(TOKEN_AND)); i++) {
+                boolean isOr = isNext(TOKEN_OR);
+                at++;
+                if (isOr) {
+                    jumpHere(waiting);
+                }
+                int jump = emit(isOr ? OP_OR : OP_AND, 0);
                 if (!readPlain(depth)) {
                     return false;
                 }
-                jumpHere(jump);
+                if (isOr) {
+                    waiting = jump;
+                } else {
+                    jumpHere(jump);
+                }
             }
+            jumpHere(waiting);
             return true;
         }
 
@@ -1094,59 +1081,56 @@ public final class LateGlass {
             for (int i = 0; i < MOST_BYTES && passed(TOKEN_NOT); i++) {
                 turned = !turned;
             }
-            boolean read = isNext('(')
-                ? depth < MOST_DEPTH && passed('(') && readTest(depth + 1) && passed(')')
-                : readComparison(depth);
-            if (read && turned) {
+            if (isNext('(')) {
+                if (depth >= MOST_DEPTH || !passed('(') || !readTest(depth + 1) || !passed(')')) {
+                    return false;
+                }
+            } else {
+                if (!readSum(depth)) {
+                    return false;
+                }
+                int op = isNext('<') ? OP_LESS : isNext('>') ? OP_MORE : isNext('=') ? OP_SAME : NONE;
+                if (op == NONE) {
+                    return false;
+                }
+                at++;
+                if (!readSum(depth)) {
+                    return false;
+                }
+                emit(op, 0);
+            }
+            if (turned) {
                 emit(OP_NOT, 0);
             }
-            return read;
-        }
-
-        private boolean readComparison(int depth) {
-            if (!readSum(depth)) {
-                return false;
-            }
-            int op = isNext('<') ? OP_LESS : isNext('>') ? OP_MORE : OP_SAME;
-            if (op == OP_SAME && !isNext('=')) {
-                return false;
-            }
-            at++;
-            if (!readSum(depth)) {
-                return false;
-            }
-            emit(op, 0);
             return true;
         }
 
         private boolean readSum(int depth) {
-            if (!readTerm(depth)) {
-                return false;
-            }
-            for (int i = 0; i < MOST_BYTES && (isNext('+') || isNext('-')); i++) {
-                int op = isNext('+') ? OP_ADD : OP_SUBTRACT;
-                at++;
-                if (!readTerm(depth)) {
-                    return false;
-                }
-                emit(op, 0);
-            }
-            return true;
-        }
-
-        private boolean readTerm(int depth) {
             if (!readPart(depth)) {
                 return false;
             }
-            for (int i = 0; i < MOST_BYTES && (isNext('*') || isNext('/')); i++) {
-                int op = isNext('*') ? OP_TIMES : OP_DIVIDE;
+            int waiting = NONE;
+            for (int i = 0; i < MOST_BYTES; i++) {
+                int op = isNext('+') ? OP_ADD : isNext('-') ? OP_SUBTRACT
+                    : isNext('*') ? OP_TIMES : isNext('/') ? OP_DIVIDE : NONE;
+                boolean canWait = op == OP_ADD || op == OP_SUBTRACT;
+                if (waiting != NONE && (canWait || op == NONE)) {
+                    emit(waiting, 0);
+                }
+                if (op == NONE) {
+                    return true;
+                }
                 at++;
                 if (!readPart(depth)) {
                     return false;
                 }
-                emit(op, 0);
+                if (canWait) {
+                    waiting = op;
+                } else {
+                    emit(op, 0);
+                }
             }
-            return true;
+            return false;
         }
 
         private boolean readPart(int depth) {
@@ -1165,30 +1149,28 @@ public final class LateGlass {
         }
 
         private boolean isNext(int kind) {
-            return tokens.kindAt(at) == kind;
+            return at < tokens.kinds.length && tokens.kinds[at] == kind;
         }
 
         private boolean passed(int kind) {
-            if (!isNext(kind)) {
-                return false;
-            }
-            at++;
-            return true;
+            boolean is = at < tokens.kinds.length && tokens.kinds[at] == kind;
+            at += is ? 1 : 0;
+            return is;
         }
 
         private void jumpHere(int jump) {
-            if (jump < code.length) {
+            if (jump >= 0 && jump < code.length) {
                 code[jump] |= length;
             }
         }
 
         private int emit(int op, int argument) {
-            int place = length;
-            if (place < code.length) {
-                code[place] = op << OP_SHIFT | argument;
-                length++;
+            if (length >= code.length) {
+                return NONE;
             }
-            return place;
+            code[length] = op << OP_SHIFT | argument;
+            length++;
+            return length - 1;
         }
     }
 
@@ -1290,6 +1272,8 @@ public final class LateGlass {
         int lastHour;
         int bright;
         int went;
+        /** Glasses that looks came to, as bits, since this was set to 0. */
+        int met;
         private int cell;
         private int way;
         private int hour;
@@ -1319,11 +1303,11 @@ public final class LateGlass {
                 lastHour = hour;
                 points[step] = hour * CELLS + cell;
                 length = step + 1;
-                if (isOn(house.bodyBoards[hour], cell)) {
+                if (isOn(house.bodyBoards[hour] | glassBoard, cell)) {
                     meetBodies();
-                }
-                if (!isOver && isOn(glassBoard, cell)) {
-                    meetGlass();
+                    if (!isOver && isOn(glassBoard, cell)) {
+                        meetGlass();
+                    }
                 }
             }
         }
@@ -1338,6 +1322,7 @@ public final class LateGlass {
         }
 
         boolean findsBody(int body, int from, int fromHour) {
+            met = 0;
             for (int direction = 0; direction < WAYS; direction++) {
                 run(from, direction, fromHour, 0);
                 if (seen == body) {
@@ -1420,6 +1405,7 @@ public final class LateGlass {
             int row = glass == NONE ? house.spots.find(CELL, cell) : glass;
             int number = glass == NONE ? MOST_GLASSES + row : glass;
             int sort = table.get(row, SORT);
+            met |= 1 << number;
             Law law = house.lawInForce();
             ask(number, NONE);
             if ((table.get(row, COVERED) >> hour & 1) != 0 || judge.isHeld(law, HEAD_COVERS)
@@ -1754,6 +1740,8 @@ public final class LateGlass {
         private final Look eye;
         /** From where in each hour the body is still seen in time, as boards. */
         private final long[] goals = new long[HOURS];
+        /** Which glasses the looks from a cell in an hour met, as bits. */
+        private final int[] met = new int[HOURS * CELLS];
 
         Walker(House house, Look eye) {
             this.house = house;
@@ -1769,13 +1757,31 @@ public final class LateGlass {
                 isThere = isThere || house.bodies.get(body, hour) != NONE;
                 long good = 0;
                 for (int at = 0; at < CELLS; at++) {
-                    if (isThere && isOn(here, at) && eye.findsBody(body, at, hour)) {
-                        good |= 1L << at;
-                    }
+                    boolean isSeen = isThere && isOn(here, at) && eye.findsBody(body, at, hour);
+                    good |= isSeen ? 1L << at : 0;
+                    met[hour * CELLS + at] = isThere ? eye.met : 0;
                 }
                 goals[hour] = good;
                 if (good != 0) {
                     return hour;
+                }
+                here = spread(here);
+            }
+            return NONE;
+        }
+
+        /**
+         * As firstSight, which was asked last, with a glass that was turned since, ahead of what it
+         * answered: only looks that met that glass can see now what they did not.
+         */
+        int sightBy(int glass, int body, int cell, int from, int before) {
+            long here = 1L << cell;
+            for (int hour = from; hour < before; hour++) {
+                for (int at = 0; at < CELLS; at++) {
+                    boolean canDiffer = isOn(here, at) && (met[hour * CELLS + at] >> glass & 1) != 0;
+                    if (canDiffer && eye.findsBody(body, at, hour)) {
+                        return hour;
+                    }
                 }
                 here = spread(here);
             }

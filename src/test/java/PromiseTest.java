@@ -339,7 +339,12 @@ public final class PromiseTest {
         faultAt(0, ";late 1");
         faultAt(7, "late 1 late 2");
         faultAt(0, "lates 1");
+        faultAt(0, "latez 1");
+        faultAt(5, "late xz");
         faultAt(0, "Late 1");
+        faultAt(0, ";".repeat(400));
+        faultAt(NONE, " ".repeat(394) + "late 1");
+        faultAt(400, " ".repeat(395) + "late ");
         faultAt(0, "if x=1");
         faultAt(6, "late 1\t");
         faultAt(6, "late 1" + (char) 233);
@@ -756,6 +761,11 @@ public final class PromiseTest {
         due("P21 the hour of him who sees", 5, g.first(0, 0));
         due("P21 by whom", 3, g.first(0, 1));
         due("P21 how late", 3, g.first(0, 2));
+        g.stay(0, 0, 0, cell(2, 6));
+        g.stay(1, 0, 0, cell(0, 6));
+        due("P21 in hour 0", 0, g.first(1, 0));
+        due("P21 by body 0", 0, g.first(1, 1));
+        due("P21 by body 1", 1, g.first(0, 1));
         due("P21 bad", NONE, g.first(0, 3));
         due("P21 bad", NONE, g.first(0, -1));
         due("P21 bad", NONE, g.first(4, 0));
@@ -1158,6 +1168,16 @@ public final class PromiseTest {
         // Over a late glass he is seen when he is gone.
         g.glass(cell(4, 6), 2, 10, 0);
         due("P37 over a glass", 15, g.soonest(0, cell(4, 5), 7));
+        // In cell 0 in hour 0 alone, and from an hour on.
+        LateGlass h = new LateGlass();
+        h.body();
+        h.stay(0, 0, 0, 0);
+        h.glass(cell(0, 4), 2, 5, 0);
+        due("P37 long ago", 5, h.soonest(0, cell(0, 2), 1));
+        h.stay(0, 0, 0, NONE);
+        h.stay(0, 3, 23, 0);
+        due("P37 from an hour on", 3, h.soonest(0, cell(0, 2), 1));
+        due("P37 from an hour on", 4, h.soonest(0, cell(0, 2), 4));
         // Another body in between hides him; the walker hides nobody.
         g.body();
         g.stay(1, 0, 23, cell(4, 2));
@@ -1261,7 +1281,7 @@ public final class PromiseTest {
         }
         due("P42 empty", 0, g.image(1));
         g.wall(1, 1);
-        g.glass(2, 1, 2, 3);
+        g.glass(2, 3, 2, 3);
         g.turn(0, 3, 7);
         g.body();
         g.stay(0, 1, 2, 3);
