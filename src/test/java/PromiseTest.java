@@ -1178,6 +1178,8 @@ public final class PromiseTest {
         h.stay(0, 3, 23, 0);
         due("P37 from an hour on", 3, h.soonest(0, cell(0, 2), 1));
         due("P37 from an hour on", 4, h.soonest(0, cell(0, 2), 4));
+        h.stay(0, 0, 2, 0);
+        due("P37 in hour 0", 0, h.soonest(0, cell(0, 2), 0));
         // Another body in between hides him; the walker hides nobody.
         g.body();
         g.stay(1, 0, 23, cell(4, 2));
