@@ -69,6 +69,7 @@ public final class FormTest {
             for (Method method : type.getDeclaredMethods()) {
                 boolean ours = type != LateGlass.class || !Modifier.isPublic(method.getModifiers());
                 hold(!ours || !names.contains(method.getName()), "bears a public name: " + method);
+                hold(!ours || type != LateGlass.class || Modifier.isPrivate(method.getModifiers()), "rule 1: " + method);
             }
         }
         Field none = LateGlass.class.getDeclaredField("NONE");
