@@ -8,8 +8,8 @@ import java.util.regex.Matcher;
 import java.util.regex.Pattern;
 
 /**
- * Each sentence of the document that names a boundary case has a test of its own. With a third argument
- * it prints what of the document no test quotes.
+ * Each sentence of the document that names a boundary case has a test of its own, which quotes it; no words
+ * of the terms and promises are left that no test quotes.
  */
 public final class EdgeTest {
     private static int wrong = 0;
@@ -24,12 +24,11 @@ public final class EdgeTest {
                 complain(false, name + ": " + complaint);
             }
         }
-        sections.keySet().forEach(place -> complain(
-            edges.names().stream().anyMatch(name -> edges.placeOf(name).equals(place)), place + " has no test"));
         complain(sections.size() == 49, "the document has " + sections.size() + " sections");
-        if (args.length > 2) {
-            sections.forEach((place, text) -> System.out.println(place + ": " + unquoted(edges, place, text)));
-        }
+        sections.forEach((place, text) -> {
+            String left = unquoted(edges, place, text);
+            complain(left.isEmpty(), place + ": no test quotes '" + left + "'");
+        });
         System.out.println("EdgeTest: " + edges.names().size() + " tests, " + edges.asked() + " answers, " + wrong
             + " wrong");
         if (wrong != 0) {
@@ -70,7 +69,8 @@ public final class EdgeTest {
 
     private static Map<String, String> sections(String document) {
         Map<String, String> sections = new LinkedHashMap<>();
-        Matcher terms = Pattern.compile("(?ms)^(I|II|III|IV)\\. (.*?)(?=^(?:II|III|IV)\\. |^The constants)").matcher(document);
+        String term = "(?ms)^(I|II|III|IV)\\. (.*?)(?=^(?:II|III|IV)\\. |^The constants)";
+        Matcher terms = Pattern.compile(term).matcher(document);
         while (terms.find()) {
             sections.put(terms.group(1), squeezed(terms.group(2)));
         }
@@ -99,10 +99,8 @@ public final class EdgeTest {
         for (int i = 0; i < is.length; i++) {
             if (!is[i]) {
                 left.append(text.charAt(i));
-            } else if (i == 0 || !is[i - 1]) {
-                left.append("~");
             }
         }
-        return left.toString();
+        return left.toString().replaceAll("^`[^`]*`:", "").replaceAll("^[ .,:;|]+$", "");
     }
 }

@@ -89,8 +89,10 @@ final class HouseEdges {
             int answer = g.start(c);
             return answer == 0 ? g.start(c) - c : answer;
         });
-        e.edge("I", "CELLS 0 .. 63", () -> range(e, all, new int[] {0, 63}, new int[] {-1, 64, Edges.MIN, Edges.MAX}));
-        e.edge("I", "CELLS 0 .. 63", () -> range(e, orNone, new int[] {0, NONE, 63}, new int[] {-2, 64, Edges.MIN, Edges.MAX}));
+        int[] bad = {-1, 64, Edges.MIN, Edges.MAX};
+        int[] badOrNone = {-2, 64, Edges.MIN, Edges.MAX};
+        e.edge("I", "CELLS 0 .. 63", () -> range(e, all, new int[] {0, 63}, bad));
+        e.edge("I", "CELLS 0 .. 63", () -> range(e, orNone, new int[] {0, NONE, 63}, badOrNone));
     }
 
     private static void hours(Edges e) {
@@ -183,7 +185,7 @@ final class HouseEdges {
             e.due(-3, g.glass(9, 1, 0, 0));
             e.due(1, g.glass(10, 1, 0, 0));
         });
-        e.edge("I", "of a SORT: 0 leans as /, 1 as \\, 2 .. 5 flat", () -> {
+        e.edge("I", "of a SORT: 0 leans as /, 1 as \\, 2 .. 5 flat, FACING north, east, south, west", () -> {
             LateGlass g = new LateGlass();
             for (int bad : new int[] {-1, 6, Edges.MIN, Edges.MAX}) {
                 e.due("glass", -1, g.glass(0, bad, 0, 0));
@@ -196,6 +198,16 @@ final class HouseEdges {
             e.due("turned", 0, g.turn(0, 0, 5));
             e.due("a spot", 0, g.spot(2, 0, 0));
             e.due("a spot", 1, g.spot(3, 5, 0));
+            int middle = Edges.cell(3, 3);
+            int[] beside = {Edges.cell(3, 2), Edges.cell(4, 3), Edges.cell(3, 4), Edges.cell(2, 3)};
+            for (int facing = 0; facing < 4; facing++) {
+                LateGlass flat = new LateGlass();
+                flat.glass(middle, 2 + facing, 0, 0);
+                for (int from = 0; from < 4; from++) {
+                    boolean is = facing == from;
+                    e.due("sort " + (2 + facing) + " from side " + from, is ? 1 : 0, flat.lit(beside[from], 5, beside[from]));
+                }
+            }
         });
         e.edge("I", "DUST 0 .. 10", () -> {
             LateGlass g = new LateGlass();

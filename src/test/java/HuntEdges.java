@@ -437,15 +437,16 @@ final class HuntEdges {
             ring.glass(Edges.cell(0, 4), 2, 3, 0);
             e.due("he is in the body's cell, and looks through himself", 3, ring.soonest(0, 0, 3));
             int middle = Edges.cell(3, 3);
-            int[][] there = {{2, 0}, {4, 0}, {0, 2}, {0, 4}};
+            int[] there = {Edges.cell(2, 0), Edges.cell(4, 0), Edges.cell(0, 2), Edges.cell(0, 4)};
+            int[] further = {Edges.cell(1, 0), Edges.cell(5, 0), Edges.cell(0, 1), Edges.cell(0, 5)};
             int[] by = {Edges.cell(2, 3), Edges.cell(4, 3), Edges.cell(3, 2), Edges.cell(3, 4)};
             for (int i = 0; i < 4; i++) {
                 LateGlass near = new LateGlass();
                 near.body();
-                near.stay(0, 1, 1, Edges.cell(there[i][0], there[i][1]));
+                near.stay(0, 1, 1, there[i]);
                 e.due("one cell beside him", 1, near.soonest(0, middle, 0));
                 e.due("one cell beside him", by[i], near.way(0, middle, 0, 1));
-                near.stay(0, 1, 1, Edges.cell(there[i][0] == 0 ? 0 : there[i][0] * 2 - 3, there[i][1] == 0 ? 0 : there[i][1] * 2 - 3));
+                near.stay(0, 1, 1, further[i]);
                 e.due("not two cells off", NONE, near.soonest(0, middle, 0));
             }
             LateGlass two = Edges.only(9, 10);
@@ -515,7 +516,7 @@ final class HuntEdges {
 
     private static void sooner(Edges e) {
         int from = Edges.cell(3, 3);
-        e.edge("IV", "of all GLASSES each of another SORT alone, from the beginning on", () -> {
+        e.edge("IV", "SOONER by turning: of all GLASSES each of another SORT alone, from the beginning on", () -> {
             LateGlass g = turnable();
             g.stay(0, 23, 23, Edges.cell(7, 0));
             e.due("the hour", 23, g.sooner(0, from, 23, 0));
@@ -600,7 +601,7 @@ final class HuntEdges {
     }
 
     private static void wandering(Edges e) {
-        e.edge("IV", "s is the SEED (0 .. 1,000,000)", () -> {
+        e.edge("IV", "WANDERING with a SEED from a CELL: s is the SEED (0 .. 1,000,000)", () -> {
             LateGlass g = new LateGlass();
             e.due("too small", -1, g.wander(-1, 0));
             e.due("too large", -1, g.wander(1000001, 0));

@@ -92,7 +92,7 @@ final class LawEdges {
     }
 
     private static void tokens(Edges e) {
-        e.edge("II", "longest rows of letters a .. z", () -> {
+        e.edge("II", "TOKENS: longest rows of letters a .. z", () -> {
             e.fault(NONE, "late x");
             e.fault(0, "latex");
             e.fault(0, "lat e 1");
@@ -124,6 +124,9 @@ final class LawEdges {
                 boolean isPart = b == 32 || b >= '0' && b <= '9';
                 boolean isMore = isPart || b == ';' || b == '+' || b == '-' || b == '*' || b == '/';
                 e.fault(isPart ? NONE : isMore ? 7 : 6, "late 1" + (char) b);
+                e.fault(b == 32 ? 1 : 0, (char) b + "1");
+                boolean isWhole = b == 'x' || b == 'y' || b >= '0' && b <= '9';
+                e.fault(isWhole ? NONE : b == '[' || b == 32 ? 6 : 5, "late " + (char) b);
             }
         });
         e.edge("II", "any blanks (32) between", () -> {
@@ -267,7 +270,7 @@ final class LawEdges {
             e.fault(84, eleven + "clear ;late 1;late 2");
             e.fault(83, eleven + "clear ?");
         });
-        e.edge("II", "NUMBER (to 1,000)", () -> {
+        e.edge("II", "PART: NUMBER (to 1,000)", () -> {
             e.fault(NONE, "late 1000");
             e.fault(5, "late 1001");
             e.fault(5, "late 9999");
@@ -479,7 +482,7 @@ final class LawEdges {
     }
 
     private static void telling(Edges e) {
-        e.edge("II", "how LATE it is is what \"late\" tells, 0 .. 23 (else the nearest), its LATE without", () -> {
+        e.edge("II", "Of a GLASS: how LATE it is is what \"late\" tells, 0 .. 23 (else the nearest), its LATE without", () -> {
             told(e, 0, "0");
             told(e, 23, "23");
             told(e, 23, "24");

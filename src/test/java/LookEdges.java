@@ -23,12 +23,12 @@ final class LookEdges {
     }
 
     private static void ends(Edges e) {
-        e.edge("III", "is 1,000,000 bright", () -> {
+        e.edge("III", "A LOOK from a CELL, a WAY and an HOUR is 1,000,000 bright", () -> {
             LateGlass g = new LateGlass();
             e.due("with points", 1000000, g.look(0, EAST, 0, 3));
             e.due("without", 1000000, g.look(0, NORTH, 0, 3));
         });
-        e.edge("III", "goes on CELL by CELL (the first is that next to it that WAY)", () -> {
+        e.edge("III", "and goes on CELL by CELL (the first is that next to it that WAY)", () -> {
             LateGlass g = new LateGlass();
             for (int i = 0; i < 7; i++) {
                 e.due("cell " + i, 64 * 5 + 1 + i, g.point(0, EAST, 5, i));
@@ -105,7 +105,7 @@ final class LookEdges {
     }
 
     private static void bodies(Edges e) {
-        e.edge("III", "if a BODY that is not CLEAR is there in that HOUR (of some the lowest), it is SEEN, and the LOOK ENDS there", () -> {
+        e.edge("III", "In each CELL that it comes to: if a BODY that is not CLEAR is there in that HOUR (of some the lowest), it is SEEN, and the LOOK ENDS there", () -> {
             LateGlass g = new LateGlass();
             g.body();
             g.body();
@@ -170,7 +170,7 @@ final class LookEdges {
     }
 
     private static void hoursAndBright(Edges e) {
-        e.edge("III", "the HOUR becomes as much earlier as it is LATE (it ENDS there, if that is below 0)", () -> {
+        e.edge("III", "else the HOUR becomes as much earlier as it is LATE (it ENDS there, if that is below 0)", () -> {
             LateGlass g = new LateGlass();
             g.glass(3, 5, 4, 5);
             e.due("hour 0 can be", 0, g.look(0, EAST, 4, 2));
@@ -224,7 +224,7 @@ final class LookEdges {
     }
 
     private static void turning(Edges e) {
-        e.edge("III", "of / north for east, east for north, south for west, west for south", () -> {
+        e.edge("III", "and it goes on by another WAY: of / north for east, east for north, south for west, west for south", () -> {
             turn(e, 0, EAST, NORTH);
             turn(e, 0, NORTH, EAST);
             turn(e, 0, WEST, SOUTH);
@@ -277,7 +277,7 @@ final class LookEdges {
     }
 
     private static void points(Edges e) {
-        e.edge("III", "each with the HOUR in which it comes there (ahead of what a GLASS there does)", () -> {
+        e.edge("III", "POINTS of a LOOK: the CELLS it comes to, each with the HOUR in which it comes there (ahead of what a GLASS there does)", () -> {
             LateGlass g = new LateGlass();
             g.glass(3, 5, 4, 0);
             e.due("at the glass", 64 * 9 + 3, g.point(0, EAST, 9, 2));

@@ -108,7 +108,9 @@ public final class Mutants {
             mutants.add(new Mutant(source, tests.start(), tests.end(), "(" + tests.group() + ") && false"));
             mutants.add(new Mutant(source, tests.start(), tests.end(), "(" + tests.group() + ") || true"));
         }
-        Matcher statements = Pattern.compile("(?m)^ +((?!return|break|continue|import|private|final|[\\w.<>\\[\\]]+ \\w+ = |[\\w\\[\\]]+ \\w+;)[\\w.\\[\\] +]+( [-+|&*/]?= |\\(|\\+\\+|--).*;)$").matcher(source);
+        String declared = "(?!return|break|continue|import|private|final|[\\w.<>\\[\\]]+ \\w+ = |[\\w\\[\\]]+ \\w+;)";
+        String statement = declared + "[\\w.\\[\\] +]+( [-+|&*/]?= |\\(|\\+\\+|--).*;";
+        Matcher statements = Pattern.compile("(?m)^ +(" + statement + ")$").matcher(source);
         while (statements.find()) {
             mutants.add(new Mutant(source, statements.start(1), statements.end(1), ""));
         }

@@ -635,7 +635,7 @@ final class PromiseEdges {
                 e.due(NONE, g.lit(bad[0], bad[1], bad[2]));
             }
         });
-        e.edge("23", "CELL and HOUR are no POINT of any LOOK of a BODY in any HOUR.", () -> {
+        e.edge("23", "How many HOURS of a CELL nobody SEES: CELL and HOUR are no POINT of any LOOK of a BODY in any HOUR.", () -> {
             LateGlass g = new LateGlass();
             e.due("nobody", 24, g.unseen(7));
             g.body();
