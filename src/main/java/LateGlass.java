@@ -1292,7 +1292,8 @@ public final class LateGlass {
             lastHour = NONE;
             bright = MOST_BRIGHT;
             went = 0;
-            isOver = false;
+            // What a table kept is tested again here: all rows by hour and cell rest on it.
+            isOver = !isLook(fromCell, fromWay, fromHour);
             long glassBoard = house.glassBoard | hungBoard(hung);
             for (int step = 0; step < MOST_STEPS && !isOver; step++) {
                 int next = beside(cell, way);
